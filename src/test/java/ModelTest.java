@@ -4,6 +4,8 @@ import java.util.Random;
 public final class ModelTest {
   private static final int RUNS = 1500;
   private static final int CALLS = 500;
+  /** Beyond these the document leaves an object's answers free. */
+  private static final int MOST_CALLS = 512;
 
   private final Random random;
   private final int run;
@@ -24,6 +26,7 @@ public final class ModelTest {
   }
 
   private void both(String call, Due.Call want, Due.Call got) {
+    if (calls == MOST_CALLS) return;
     calls++;
     Object due = Due.answer(want);
     Due.is("run " + run + ", call " + calls + ": " + call, due, got);
