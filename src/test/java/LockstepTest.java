@@ -21,7 +21,8 @@ public final class LockstepTest {
     LockstepNet x = new LockstepNet();
     int n = joinAll(x, shape);
     for (int node = 0; node < n; node++) {
-      x.input(node, 0, program == 0 ? (node == 0 ? 1 : 0) : node * 37 % 11 % (program == 2 ? 2 : 99));
+      int some = node * 37 % 11;
+      x.input(node, 0, program == 0 ? (node == 0 ? 1 : 0) : program == 2 ? some % 2 : some);
     }
     if (program < 5) {
       x.builtin(program);
