@@ -159,8 +159,15 @@ public final class RefusalsTest {
     seeCounts(x, look);
   }
 
+  /** Only where there is a run: a refused call here would hide what the tried one has changed. */
+  private static void endRun(LockstepNet x) {
+    if (Due.answer(() -> x.count(0)) instanceof Integer) {
+      x.release();
+    }
+  }
+
   private static void changeProgram(LockstepNet x, Look look) {
-    look.at("release", Due.quiet(x::release));
+    endRun(x);
     look.at("check", x::check);
     for (int i = 65; i > 0; i--) {
       int words = i;
@@ -173,7 +180,7 @@ public final class RefusalsTest {
   }
 
   private static void changeNet(LockstepNet x, Look look) {
-    look.at("release", Due.quiet(x::release));
+    endRun(x);
     int n = size(x);
     for (int i = 0; i < n; i += 3) {
       int a = i;
@@ -189,7 +196,7 @@ public final class RefusalsTest {
   }
 
   private static void runAgain(LockstepNet x, Look look) {
-    look.at("release", Due.quiet(x::release));
+    endRun(x);
     look.at("lockstep 4", Due.quiet(() -> x.lockstep(4)));
     look.at("prepare", () -> x.prepare(2, 2));
     look.at("stopAt 4", Due.quiet(() -> x.stopAt(4)));

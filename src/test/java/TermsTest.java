@@ -693,6 +693,16 @@ public final class TermsTest {
     Nets.deliver(x, "2 2 1 1");
     // SAFE of node 0's round 1 came before.
     Nets.roundsAre(x, 1, 2, 1);
+    LockstepNet y = Nets.line(2);
+    y.prepare(2, 8);
+    y.stopAt(2);
+    Nets.deliver(y, "6 0 1 0");
+    Nets.deliver(y, "6 1 0 1");
+    Nets.roundsAre(y, 0, 1);
+    Nets.deliver(y, "6 1 0 0");
+    // NEIGHBOUR of node 1's round 1 came before.
+    Nets.roundsAre(y, 2, 1);
+    Nets.row(y, "6 0 1 1 0");
   }
 
   private static void toldBefore() {
