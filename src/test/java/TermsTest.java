@@ -42,6 +42,7 @@ public final class TermsTest {
     Due.test("words: 64 words for each of 23 ports", TermsTest::greatestEach);
     Due.test("words: ROUND, SELF, PORTS", TermsTest::aboutItself);
     Due.test("letters: GOT and TAKE with and without one", TermsTest::gotAndTake);
+    Due.test("letters: each by its own port", TermsTest::ownPorts);
     Due.test("letters: SEND in the place of another", TermsTest::sendAgain);
     Due.test("letters: the value as it is then", TermsTest::valueAsItIsThen);
     Due.test("wrong: op is 0 .. 21", TermsTest::wrongOp);
@@ -341,6 +342,29 @@ public final class TermsTest {
     }
     x.lockstep(300);
     Due.is("one letter for each round", 299, () -> x.plain(1, 3));
+  }
+
+  /** Node 0 has all ports that there may be; by port k of node i goes 100 * i + k. */
+  private static void ownPorts() {
+    LockstepNet x = Nets.star(24);
+    Nets.words(x, SELF, 1, 0, 0, SET, 2, 100, 0, MUL, 1, 1, 2, SET, 5, 0, 0, SET, 6, 31, 0,
+        EACH, 0, 5, 0, TAKE, 3, 0, 0, MUL, 5, 5, 6, ADD, 5, 5, 3, ADD, 4, 1, 0, SEND, 4, 0, 0);
+    int sum = 0;
+    for (int node = 1; node < 24; node++) {
+      sum = sum * 31 + 100 * node;
+    }
+    int due = sum;
+    x.lockstep(2);
+    Due.is("what comes to node 0", due, () -> x.plain(0, 5));
+    x.prepare(0, 2);
+    x.stopAt(2);
+    x.deliverAll(2, 6, 2000);
+    Due.is("what comes to node 0 in a run", due, () -> x.value(0, 5));
+    for (int i = 1; i < 24; i++) {
+      int node = i;
+      Due.is("what comes to node " + node, node - 1, () -> x.plain(node, 5));
+      Due.is("what comes to node " + node + " in a run", node - 1, () -> x.value(node, 5));
+    }
   }
 
   private static void sendAgain() {
@@ -1052,6 +1076,7 @@ public final class TermsTest {
       for (int i = 0; i < 5 && x.letters() > 0; i++) {
         all += x.deliverAll(i % 3, i, 2000);
       }
+      Due.is("a border", 4, () -> x.switchTo(0));
       Due.is("none is left", 0, x::letters);
       Due.is("program's", 3 * 120, () -> x.count(0));
       Due.is("receipts", 3 * 120, () -> x.count(1));
